@@ -1,0 +1,93 @@
+import java.nio.charset.StandardCharsets;
+import java.util.NoSuchElementException;
+
+/** What the tests share: answers that are due, texts fed as bytes, and the count of what is wrong. */
+final class Checks {
+    private static final int MOST_SHOWN = 40;
+    private static int wrong = 0;
+    private static int asked = 0;
+
+    private Checks() {
+    }
+
+    /** A call that may throw. */
+    interface Call {
+        long answer();
+    }
+
+    static void due(String call, long got, long want) {
+        asked++;
+        if (got != want) {
+            complain(call + " answered " + got + ", due is " + want);
+        }
+    }
+
+    static void due(String call, boolean got, boolean want) {
+        due(call, got ? 1 : 0, want ? 1 : 0);
+    }
+
+    static void dueNoSuchElement(String name, Call call) {
+        asked++;
+        try {
+            complain(name + " answered " + call.answer() + ", due is NoSuchElementException");
+        } catch (NoSuchElementException e) {
+            // as due
+        }
+    }
+
+    static void complain(String what) {
+        wrong++;
+        if (wrong <= MOST_SHOWN) {
+            System.out.println(what);
+        }
+    }
+
+    static boolean anyWrong() {
+        return wrong > 0;
+    }
+
+    /** Puts the bytes of a text on the tape, whatever was there. */
+    static void write(CashDeriver x, String text) {
+        writeBytes(x, text.getBytes(StandardCharsets.ISO_8859_1));
+    }
+
+    static void writeBytes(CashDeriver x, byte[] bytes) {
+        x.end(0);
+        for (int at = 0; at < bytes.length; at += 20) {
+            x.feed(four(bytes, at), four(bytes, at + 4), four(bytes, at + 8), four(bytes, at + 12), four(bytes, at + 16));
+        }
+        if (!x.end(bytes.length)) {
+            throw new IllegalStateException("the tape can't hold " + bytes.length + " bytes");
+        }
+    }
+
+    static int four(byte[] bytes, int at) {
+        int number = 0;
+        for (int k = at; k < at + 4; k++) {
+            number = number << 8 | (k < bytes.length ? bytes[k] & 255 : 0);
+        }
+        return number;
+    }
+
+    static int read(CashDeriver x, String text) {
+        write(x, text);
+        return x.text();
+    }
+
+    /** A new object that has read a text, which must be one. */
+    static CashDeriver of(String text) {
+        CashDeriver x = new CashDeriver();
+        int answer = read(x, text);
+        if (answer < 0) {
+            complain("no text: " + text + " answered " + answer + ", fault " + x.fault());
+        }
+        return x;
+    }
+
+    static void finish() {
+        System.out.println(wrong == 0 ? asked + " answers are as due" : wrong + " of " + asked + " answers are not as due");
+        if (wrong != 0) {
+            System.exit(1);
+        }
+    }
+}
