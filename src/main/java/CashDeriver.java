@@ -1069,21 +1069,21 @@ public final class CashDeriver {
 
     /** Finds the fewest journals without which no balance told would be wrong. */
     private static final class Tracer {
+        /** Stands in place of a journal where fewer than three are looked at. */
+        private static final int NOBODY = MOST_JOURNALS;
+
         private final int[] numbers = new int[MOST_JOURNALS];
-        /** By journal that counts and by account told: what the account would lose. */
-        private final int[][] shares = new int[MOST_JOURNALS][MOST_ACCOUNTS];
+        /** By journal that counts and by account told: what the account would lose; of NOBODY always 0. */
+        private final int[][] shares = new int[MOST_JOURNALS + 1][MOST_ACCOUNTS];
         /** By account told: what it has too much. */
         private final int[] excess = new int[MOST_ACCOUNTS];
         private int journals = 0;
         private int accounts = 0;
 
         int trace(Book book) {
-            gather(book);
-            boolean settled = true;
-            for (int a = 0; a < accounts; a++) {
-                settled = settled && excess[a] == 0;
-            }
-            if (settled) {
+            gatherJournals(book);
+            gatherAccounts(book);
+            if (explain(NOBODY, NOBODY, NOBODY)) {
                 return 0;
             }
             int bits = searchOne();
@@ -1091,15 +1091,18 @@ public final class CashDeriver {
             return bits == NONE ? searchThree() : bits;
         }
 
-        private void gather(Book book) {
+        private void gatherJournals(Book book) {
             journals = 0;
-            accounts = 0;
             for (int n = 0; n < MOST_JOURNALS; n++) {
                 if (book.counting(n, 0, PERIODS - 1) != null) {
                     numbers[journals] = n;
                     journals++;
                 }
             }
+        }
+
+        private void gatherAccounts(Book book) {
+            accounts = 0;
             for (int account = 0; account < MOST_ACCOUNTS; account++) {
                 if (book.isTold(account)) {
                     excess[accounts] = -book.residualOf(account);
@@ -1119,27 +1122,19 @@ public final class CashDeriver {
         // The searches take the highest journal outermost: so the least bits are met first.
 
         private int searchOne() {
-            for (int c = 0; c < journals; c++) {
-                boolean fits = true;
-                for (int a = 0; a < accounts && fits; a++) {
-                    fits = shares[c][a] == excess[a];
-                }
-                if (fits) {
-                    return 1 << numbers[c];
+            for (int high = 0; high < journals; high++) {
+                if (explain(high, NOBODY, NOBODY)) {
+                    return bitOf(high);
                 }
             }
             return NONE;
         }
 
         private int searchTwo() {
-            for (int c = 1; c < journals; c++) {
-                for (int b = 0; b < c; b++) {
-                    boolean fits = true;
-                    for (int a = 0; a < accounts && fits; a++) {
-                        fits = shares[c][a] + shares[b][a] == excess[a];
-                    }
-                    if (fits) {
-                        return 1 << numbers[c] | 1 << numbers[b];
+            for (int high = 1; high < journals; high++) {
+                for (int low = 0; low < high; low++) {
+                    if (explain(high, low, NOBODY)) {
+                        return bitOf(high) | bitOf(low);
                     }
                 }
             }
@@ -1147,28 +1142,29 @@ public final class CashDeriver {
         }
 
         private int searchThree() {
-            for (int d = 2; d < journals; d++) {
-                for (int c = 1; c < d; c++) {
-                    int bits = searchThird(d, c);
-                    if (bits != NONE) {
-                        return bits;
+            for (int high = 2; high < journals; high++) {
+                for (int middle = 1; middle < high; middle++) {
+                    for (int low = 0; low < middle; low++) {
+                        if (explain(high, middle, low)) {
+                            return bitOf(high) | bitOf(middle) | bitOf(low);
+                        }
                     }
                 }
             }
             return NONE;
         }
 
-        private int searchThird(int d, int c) {
-            for (int b = 0; b < c; b++) {
-                boolean fits = true;
-                for (int a = 0; a < accounts && fits; a++) {
-                    fits = shares[d][a] + shares[c][a] + shares[b][a] == excess[a];
-                }
-                if (fits) {
-                    return 1 << numbers[d] | 1 << numbers[c] | 1 << numbers[b];
+        private boolean explain(int high, int middle, int low) {
+            for (int a = 0; a < accounts; a++) {
+                if (shares[high][a] + shares[middle][a] + shares[low][a] != excess[a]) {
+                    return false;
                 }
             }
-            return NONE;
+            return true;
+        }
+
+        private int bitOf(int n) {
+            return 1 << numbers[n];
         }
     }
 

@@ -164,6 +164,9 @@ final class FiguresTest {
         x.turn(2, 1);
         Checks.due("deals(1, 1, 0, 19)", x.deals(1, 1, 0, 19), 55);
         Checks.due("deals(1, 2, 0, 19) of none", x.deals(1, 2, 0, 19), 0);
+        CashDeriver first = Checks.of("account work 0;account finance 0;journal 0 0 5 1 -5;");
+        Checks.due("deals(1, 4, 0, 0) of journal 0", first.deals(1, 4, 0, 0), 5);
+        indirect(first, 0, 0, 0, -5, 5);
     }
 
     private static void checkBalance() {

@@ -178,7 +178,10 @@ final class LookTest {
                 Checks.due("piece(" + journal + ", " + k + ", " + what + ")", x.piece(journal, k, what), due[k][what]);
             }
         }
-        Checks.due("no piece behind the last", x.piece(journal, due.length, 0), -1);
+        for (int what = 0; what < 4; what++) {
+            Checks.due("no piece behind the last", x.piece(journal, due.length, what), -1);
+            Checks.due("no piece ahead of the first", x.piece(journal, -1, what), -1);
+        }
     }
 
     /** Every pair of kinds, told by a piece from one account to another. */

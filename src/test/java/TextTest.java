@@ -58,6 +58,10 @@ final class TextTest {
         bad("account cash 0.", 1, 14);
         bad("account cash +1;", 1, 13);
         bad("account cash0;", 1, 8);
+        bad("account cash9 0;", 1, 8);
+        bad("account casha 0;", 1, 8);
+        bad("account cashz 0;", 1, 8);
+        bad("zccount cash 0;", 1, 0);
         bad("account cash 0x;", 1, 13);
         bad("account cash 123456;", 1, 13);
         bad("account cash 000000;", 1, 13);

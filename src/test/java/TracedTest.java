@@ -45,6 +45,11 @@ final class TracedTest {
         traced(x, 17, 1 | 4 | 8);
         traced(x, 21, -1);
         traced(x, 2, -1);
+        // no journal is taken twice
+        traced(x, 22, -1);
+        traced(x, 9, -1);
+        traced(x, 8, -1);
+        traced(x, 30, -1);
         traced(x, -10, -1);
         CashDeriver none = Checks.of(ACCOUNTS);
         traced(none, 0, 0);
@@ -93,6 +98,11 @@ final class TracedTest {
         x.turn(0, 3);
         x.tell(2, 0);
         Checks.due("kinds do not matter", x.traced(), 7);
+        CashDeriver all = Checks.of("account cash 0;".repeat(12) + "journal 0 0 5 11 -5;journal 1 11 5 10 -5;");
+        for (int account = 0; account < 12; account++) {
+            all.tell(account, account == 0 ? 5 : account == 11 ? -5 : 0);
+        }
+        Checks.due("twelve accounts told", all.traced(), 2);
     }
 
     private static void checkStruck() {
