@@ -119,6 +119,16 @@ final class TracedTest {
         Checks.due("all struck", x.traced(), 0);
         x.tell(0, 5);
         Checks.due("a struck one explains nothing", x.traced(), -1);
+        // nothing stays from what was traced ahead
+        CashDeriver again = posted(5, 7, 9);
+        traced(again, 21, 1 | 2 | 4);
+        again.strike(2);
+        traced(again, 9, -1);
+        traced(again, 14, -1);
+        traced(again, 21, -1);
+        again.strike(1);
+        traced(again, 7, -1);
+        traced(again, 5, 1);
     }
 
     private static void checkManyLines() {
