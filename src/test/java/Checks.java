@@ -6,6 +6,7 @@ final class Checks {
     private static final int MOST_SHOWN = 40;
     private static int wrong = 0;
     private static int asked = 0;
+    private static String test = "";
 
     private Checks() {
     }
@@ -35,10 +36,19 @@ final class Checks {
         }
     }
 
+    /** What is said of the answers that come from here on. */
+    static void begin(String newTest) {
+        test = newTest;
+    }
+
+    static int asked() {
+        return asked;
+    }
+
     static void complain(String what) {
         wrong++;
         if (wrong <= MOST_SHOWN) {
-            System.out.println(what);
+            System.out.println(test + what);
         }
     }
 
@@ -82,6 +92,28 @@ final class Checks {
             complain("no text: " + text + " answered " + answer + ", fault " + x.fault());
         }
         return x;
+    }
+
+    static void good(String text, int answer) {
+        CashDeriver x = new CashDeriver();
+        due("text() of " + text, read(x, text), answer);
+        due("fault() behind " + text, x.fault(), 0);
+        due("now(5) behind " + text, x.now(5), 0);
+        due("accounts and journals of " + text, x.now(0) + x.now(1), answer);
+    }
+
+    static void bad(String text, int kind, int place) {
+        CashDeriver x = new CashDeriver();
+        due("text() of " + text, read(x, text), -1 - place);
+        due("fault() behind " + text, x.fault(), kind);
+        due("now(5) behind " + text, x.now(5), 0);
+        due("now(0) behind " + text, x.now(0), 0);
+        due("now(1) behind " + text, x.now(1), 0);
+    }
+
+    /** A text of so many bytes, with blanks between its head and its tail. */
+    static String padded(String head, int size, String tail) {
+        return head + " ".repeat(size - head.length() - tail.length()) + tail;
     }
 
     static void finish() {

@@ -17,32 +17,17 @@ final class TextTest {
         Checks.finish();
     }
 
-    private static void good(String text, int answer) {
-        CashDeriver x = new CashDeriver();
-        Checks.due("text() of " + text, Checks.read(x, text), answer);
-        Checks.due("fault() behind " + text, x.fault(), 0);
-        Checks.due("now(5) behind " + text, x.now(5), 0);
-    }
-
-    private static void bad(String text, int kind, int place) {
-        CashDeriver x = new CashDeriver();
-        Checks.due("text() of " + text, Checks.read(x, text), -1 - place);
-        Checks.due("fault() behind " + text, x.fault(), kind);
-        Checks.due("now(5) behind " + text, x.now(5), 0);
-        Checks.due("now(0) behind " + text, x.now(0), 0);
-    }
-
     private static void checkTexts() {
-        good("", 0);
-        good(" \n \n", 0);
-        good("account cash 0;", 1);
-        good("account cash -99999;", 1);
-        good("account cash - \n 00000 ;\n", 1);
-        good("account cash-0;account\ncurrency\n99999;", 2);
-        good(TWO + "journal 0 0 1 1-1;", 3);
-        good(TWO + "journal 19 0 99999 1 - 99999 ; journal 00019 00001 00001 00000 -1;", 4);
-        good(TWO + "journal 5 0 1 0 -1;", 3);
-        good(TWO + "journal 5 0 5 1 -1 1 -1 1 -1 1 -1 1 -1;", 3);
+        Checks.good("", 0);
+        Checks.good(" \n \n", 0);
+        Checks.good("account cash 0;", 1);
+        Checks.good("account cash -99999;", 1);
+        Checks.good("account cash - \n 00000 ;\n", 1);
+        Checks.good("account cash-0;account\ncurrency\n99999;", 2);
+        Checks.good(TWO + "journal 0 0 1 1-1;", 3);
+        Checks.good(TWO + "journal 19 0 99999 1 - 99999 ; journal 00019 00001 00001 00000 -1;", 4);
+        Checks.good(TWO + "journal 5 0 1 0 -1;", 3);
+        Checks.good(TWO + "journal 5 0 5 1 -1 1 -1 1 -1 1 -1 1 -1;", 3);
         CashDeriver x = Checks.of("account work 3;account income 4;account invest 5;account finance 6;account currency 7;account cash -8;");
         for (int n = 0; n < 6; n++) {
             Checks.due("kind of " + n, x.account(n, 0), n < 5 ? n + 1 : 0);
@@ -51,165 +36,161 @@ final class TextTest {
     }
 
     private static void checkTokens() {
-        bad("Account cash 0;", 1, 0);
-        bad("account\tcash 0;", 1, 7);
-        bad("account\rcash 0;", 1, 7);
-        bad("account cash 0,", 1, 14);
-        bad("account cash 0.", 1, 14);
-        bad("account cash +1;", 1, 13);
-        bad("account cash0;", 1, 8);
-        bad("account cash9 0;", 1, 8);
-        bad("account casha 0;", 1, 8);
-        bad("account cashz 0;", 1, 8);
-        bad("zccount cash 0;", 1, 0);
-        bad("account cash 0x;", 1, 13);
-        bad("account cash 123456;", 1, 13);
-        bad("account cash 000000;", 1, 13);
-        bad("account cash -123456;", 1, 14);
-        bad("accountcash 0;", 1, 0);
-        bad("account casH 0;", 1, 8);
-        bad("account 0cash 0;", 1, 8);
-        bad(CASH + "{", 1, 15);
-        bad(CASH + "`", 1, 15);
-        bad(CASH + "/", 1, 15);
-        bad(CASH + ":", 1, 15);
-        bad(CASH + "\0", 1, 15);
-        bad(CASH + " \u00ff", 1, 16);
-        bad(CASH + " \u00bb", 1, 16);
+        Checks.bad("Account cash 0;", 1, 0);
+        Checks.bad("account\tcash 0;", 1, 7);
+        Checks.bad("account\rcash 0;", 1, 7);
+        Checks.bad("account cash 0,", 1, 14);
+        Checks.bad("account cash 0.", 1, 14);
+        Checks.bad("account cash +1;", 1, 13);
+        Checks.bad("account cash0;", 1, 8);
+        Checks.bad("account cash9 0;", 1, 8);
+        Checks.bad("account casha 0;", 1, 8);
+        Checks.bad("account cashz 0;", 1, 8);
+        Checks.bad("zccount cash 0;", 1, 0);
+        Checks.bad("account cash 0x;", 1, 13);
+        Checks.bad("account cash 123456;", 1, 13);
+        Checks.bad("account cash 000000;", 1, 13);
+        Checks.bad("account cash -123456;", 1, 14);
+        Checks.bad("accountcash 0;", 1, 0);
+        Checks.bad("account casH 0;", 1, 8);
+        Checks.bad("account 0cash 0;", 1, 8);
+        Checks.bad(CASH + "{", 1, 15);
+        Checks.bad(CASH + "`", 1, 15);
+        Checks.bad(CASH + "/", 1, 15);
+        Checks.bad(CASH + ":", 1, 15);
+        Checks.bad(CASH + "\0", 1, 15);
+        Checks.bad(CASH + " \u00ff", 1, 16);
+        Checks.bad(CASH + " \u00bb", 1, 16);
     }
 
     private static void checkWhatCantCome() {
-        bad("cash", 1, 0);
-        bad("5", 1, 0);
-        bad(";", 1, 0);
-        bad("-", 1, 0);
-        bad("journals 0", 1, 0);
-        bad("journa 0", 1, 0);
-        bad("account", 1, 7);
-        bad("account  ", 1, 9);
-        bad("account 0;", 1, 8);
-        bad("account account 0;", 1, 8);
-        bad("account cashier 0;", 1, 8);
-        bad("account currenc 0;", 1, 8);
-        bad("account cash", 1, 12);
-        bad("account cash ;", 1, 13);
-        bad("account cash cash;", 1, 13);
-        bad("account cash -", 1, 14);
-        bad("account cash --5;", 1, 14);
-        bad("account cash - ;", 1, 15);
-        bad("account cash 5", 1, 14);
-        bad("account cash 5 \n", 1, 16);
-        bad("account cash 5 5;", 1, 15);
-        bad("account cash 5-;", 1, 14);
-        bad("account cash 5;;", 1, 15);
-        bad("account cash 5;5", 1, 15);
-        bad(CASH + "journal", 1, 22);
-        bad(CASH + "journal ;", 1, 23);
-        bad(CASH + "journal -0 ", 1, 23);
-        bad(CASH + "journal cash", 1, 23);
-        bad(CASH + "journal 0", 1, 24);
-        bad(CASH + "journal 0;", 1, 24);
-        bad(CASH + "journal 0 -0", 1, 25);
-        bad(CASH + "journal 0 cash", 1, 25);
-        bad(CASH + "journal 0 0", 1, 26);
-        bad(CASH + "journal 0 0;", 1, 26);
-        bad(CASH + "journal 0 0 5;", 1, 28);
-        bad(CASH + "journal 0 0 5 0;", 1, 30);
-        bad(CASH + "journal 0 0 5 0 -5", 1, 33);
-        bad(CASH + "journal 0 0 5 0 -5-", 1, 33);
-        bad(CASH + "journal 0 0 5 0 -5 journal", 1, 34);
-        bad(CASH + "journal 0 0 5 0 -5 0;", 1, 35);
-        bad(CASH + "journal 0 0 5 0 -5;account cash 0;", 1, 34);
-        bad(CASH + "journal 0 0 5 0 -5;cash", 1, 34);
-        bad(CASH + "journal 0 0 5 0 -5;-", 1, 34);
+        Checks.bad("cash", 1, 0);
+        Checks.bad("5", 1, 0);
+        Checks.bad(";", 1, 0);
+        Checks.bad("-", 1, 0);
+        Checks.bad("journals 0", 1, 0);
+        Checks.bad("journa 0", 1, 0);
+        Checks.bad("account", 1, 7);
+        Checks.bad("account  ", 1, 9);
+        Checks.bad("account 0;", 1, 8);
+        Checks.bad("account account 0;", 1, 8);
+        Checks.bad("account cashier 0;", 1, 8);
+        Checks.bad("account currenc 0;", 1, 8);
+        Checks.bad("account cash", 1, 12);
+        Checks.bad("account cash ;", 1, 13);
+        Checks.bad("account cash cash;", 1, 13);
+        Checks.bad("account cash -", 1, 14);
+        Checks.bad("account cash --5;", 1, 14);
+        Checks.bad("account cash - ;", 1, 15);
+        Checks.bad("account cash 5", 1, 14);
+        Checks.bad("account cash 5 \n", 1, 16);
+        Checks.bad("account cash 5 5;", 1, 15);
+        Checks.bad("account cash 5-;", 1, 14);
+        Checks.bad("account cash 5;;", 1, 15);
+        Checks.bad("account cash 5;5", 1, 15);
+        Checks.bad(CASH + "journal", 1, 22);
+        Checks.bad(CASH + "journal ;", 1, 23);
+        Checks.bad(CASH + "journal -0 ", 1, 23);
+        Checks.bad(CASH + "journal cash", 1, 23);
+        Checks.bad(CASH + "journal 0", 1, 24);
+        Checks.bad(CASH + "journal 0;", 1, 24);
+        Checks.bad(CASH + "journal 0 -0", 1, 25);
+        Checks.bad(CASH + "journal 0 cash", 1, 25);
+        Checks.bad(CASH + "journal 0 0", 1, 26);
+        Checks.bad(CASH + "journal 0 0;", 1, 26);
+        Checks.bad(CASH + "journal 0 0 5;", 1, 28);
+        Checks.bad(CASH + "journal 0 0 5 0;", 1, 30);
+        Checks.bad(CASH + "journal 0 0 5 0 -5", 1, 33);
+        Checks.bad(CASH + "journal 0 0 5 0 -5-", 1, 33);
+        Checks.bad(CASH + "journal 0 0 5 0 -5 journal", 1, 34);
+        Checks.bad(CASH + "journal 0 0 5 0 -5 0;", 1, 35);
+        Checks.bad(CASH + "journal 0 0 5 0 -5;account cash 0;", 1, 34);
+        Checks.bad(CASH + "journal 0 0 5 0 -5;cash", 1, 34);
+        Checks.bad(CASH + "journal 0 0 5 0 -5;-", 1, 34);
     }
 
     private static void checkNumbers() {
-        bad("journal 0 0 1 0 -1;", 2, 10);
-        bad("journal 20 0 1 0 -1;", 2, 8);
-        bad("journal 99999 0 1 0 -1;", 2, 8);
-        bad(CASH + "journal 20 0 1 0 -1;", 2, 23);
-        bad(CASH + "journal 0 1 1 0 -1;", 2, 25);
-        bad(CASH + "journal 0 0 1 1 -1;", 2, 29);
-        bad(CASH + "journal 0 0 1 99999 -1;", 2, 29);
-        bad(CASH + "journal 0 0 0 0 0;", 2, 27);
-        bad(CASH + "journal 0 0 1 0 -0;", 2, 32);
-        bad(CASH + "journal 0 0 - 00000", 2, 29);
-        bad(TWO + "journal 0 2 1", 2, 40);
+        Checks.bad("journal 0 0 1 0 -1;", 2, 10);
+        Checks.bad("journal 20 0 1 0 -1;", 2, 8);
+        Checks.bad("journal 99999 0 1 0 -1;", 2, 8);
+        Checks.bad(CASH + "journal 20 0 1 0 -1;", 2, 23);
+        Checks.bad(CASH + "journal 0 1 1 0 -1;", 2, 25);
+        Checks.bad(CASH + "journal 0 0 1 1 -1;", 2, 29);
+        Checks.bad(CASH + "journal 0 0 1 99999 -1;", 2, 29);
+        Checks.bad(CASH + "journal 0 0 0 0 0;", 2, 27);
+        Checks.bad(CASH + "journal 0 0 1 0 -0;", 2, 32);
+        Checks.bad(CASH + "journal 0 0 - 00000", 2, 29);
+        Checks.bad(TWO + "journal 0 2 1", 2, 40);
     }
 
     private static void checkTooMany() {
         String twelve = "account cash 0;".repeat(12);
-        good(twelve, 12);
-        bad(twelve + "account", 3, 180);
-        bad(twelve + " account foo", 3, 181);
-        bad(twelve + "accounts", 1, 180);
+        Checks.good(twelve, 12);
+        Checks.bad(twelve + "account", 3, 180);
+        Checks.bad(twelve + " account foo", 3, 181);
+        Checks.bad(twelve + "accounts", 1, 180);
         String journals = "journal 0 0 1 1 -1;".repeat(12);
-        good(TWO + journals, 14);
-        bad(TWO + journals + "journal", 3, 30 + 12 * 19);
-        bad(TWO + journals + "account", 1, 30 + 12 * 19);
-        bad(twelve + "journal 0 0 1 0 -1;account", 1, 199);
+        Checks.good(TWO + journals, 14);
+        Checks.bad(TWO + journals + "journal", 3, 30 + 12 * 19);
+        Checks.bad(TWO + journals + "account", 1, 30 + 12 * 19);
+        Checks.bad(twelve + "journal 0 0 1 0 -1;account", 1, 199);
         String six = CASH + "journal 0 0 1 0 1 0 1 0 -1 0 -1 0 -1";
-        good(six + ";", 2);
-        bad(six + " 0", 3, six.length() + 1);
-        bad(six + " 0 1;", 3, six.length() + 1);
-        bad(six + " 1 1;", 2, six.length() + 1);
-        bad(six + " -", 1, six.length() + 1);
-        bad(six, 1, six.length());
-        bad(six + " cash", 1, six.length() + 1);
+        Checks.good(six + ";", 2);
+        Checks.bad(six + " 0", 3, six.length() + 1);
+        Checks.bad(six + " 0 1;", 3, six.length() + 1);
+        Checks.bad(six + " 1 1;", 2, six.length() + 1);
+        Checks.bad(six + " -", 1, six.length() + 1);
+        Checks.bad(six, 1, six.length());
+        Checks.bad(six + " cash", 1, six.length() + 1);
         // a seventh line is met ahead of the sum of all
-        bad(CASH + "journal 0 0 1 0 1 0 1 0 1 0 1 0 1 0 -6;", 3, CASH.length() + 34);
+        Checks.bad(CASH + "journal 0 0 1 0 1 0 1 0 1 0 1 0 1 0 -6;", 3, CASH.length() + 34);
     }
 
     private static void checkBalance() {
-        bad(CASH + "journal 0 0 1 0 1;", 4, 32);
-        bad(CASH + "journal 0 0 1 0 -2 ;", 4, 34);
-        bad(CASH + "journal 0 0 99999 0 99999 0 99999 0 99999 0 99999 0 99999;", 4, 72);
-        bad(CASH + "journal 0 0 1 0 -1; journal 0 0 -3 0 1 0 1;", 4, 57);
+        Checks.bad(CASH + "journal 0 0 1 0 1;", 4, 32);
+        Checks.bad(CASH + "journal 0 0 1 0 -2 ;", 4, 34);
+        Checks.bad(CASH + "journal 0 0 99999 0 99999 0 99999 0 99999 0 99999 0 99999;", 4, 72);
+        Checks.bad(CASH + "journal 0 0 1 0 -1; journal 0 0 -3 0 1 0 1;", 4, 57);
     }
 
     private static void checkFirstFault() {
-        bad("account cash 0 account foo;", 1, 15);
-        bad(CASH + "journal 20 9 0 0 1;", 2, 23);
-        bad(CASH + "journal 0 9 0 0 1;", 2, 25);
-        bad(CASH + "journal 0 0 1 0 1; $", 4, 32);
-        bad(CASH + "journal 0 0 1 0 1 $;", 1, 33);
-    }
-
-    private static String padded(String head, int size, String tail) {
-        return head + " ".repeat(size - head.length() - tail.length()) + tail;
+        Checks.bad("account cash 0 account foo;", 1, 15);
+        Checks.bad(CASH + "journal 20 9 0 0 1;", 2, 23);
+        Checks.bad(CASH + "journal 0 9 0 0 1;", 2, 25);
+        Checks.bad(CASH + "journal 0 0 1 0 1; $", 4, 32);
+        Checks.bad(CASH + "journal 0 0 1 0 1 $;", 1, 33);
     }
 
     private static void checkLongTexts() {
-        good(padded(CASH, 600, ""), 1);
-        bad(padded(CASH, 601, ""), 1, 600);
-        bad(padded(CASH, 640, ""), 1, 600);
-        bad(padded(CASH, 640, CASH), 1, 600);
-        good(padded(CASH, 600, CASH), 2);
-        bad(padded(CASH, 601, CASH), 1, 600);
-        bad(padded("account", 600, ""), 1, 600);
-        bad(padded("account", 599, ""), 1, 599);
-        bad(padded("", 640, "$"), 1, 600);
-        bad(padded("", 601, "$"), 1, 600);
-        bad(padded("", 600, "$"), 1, 599);
-        bad(padded("$", 640, ""), 1, 0);
+        Checks.good(Checks.padded(CASH, 600, ""), 1);
+        Checks.bad(Checks.padded(CASH, 601, ""), 1, 600);
+        Checks.bad(Checks.padded(CASH, 640, ""), 1, 600);
+        Checks.bad(Checks.padded(CASH, 640, CASH), 1, 600);
+        Checks.good(Checks.padded(CASH, 600, CASH), 2);
+        Checks.bad(Checks.padded(CASH, 601, CASH), 1, 600);
+        Checks.bad(Checks.padded("account", 600, ""), 1, 600);
+        Checks.bad(Checks.padded("account", 599, ""), 1, 599);
+        Checks.bad(Checks.padded("", 640, "$"), 1, 600);
+        Checks.bad(Checks.padded("", 601, "$"), 1, 600);
+        Checks.bad(Checks.padded("", 600, "$"), 1, 599);
+        Checks.bad(Checks.padded("$", 640, ""), 1, 0);
         // tokens that begin ahead of byte 600 are read whole
-        bad(padded(CASH, 603, "account"), 1, 600);
-        bad(padded(CASH, 603, "accounx"), 1, 596);
-        bad(padded(CASH, 606, "account"), 1, 600);
-        bad(padded(CASH, 607, "accounx"), 1, 600);
-        bad(padded("account cash", 604, "12345"), 1, 600);
-        bad(padded("account cash", 605, "123456"), 1, 599);
-        bad(padded(CASH + "journal", 601, "19"), 1, 600);
-        bad(padded(CASH + "journal", 601, "20"), 2, 599);
-        bad(padded(CASH + "journal 0", 601, "10"), 2, 599);
-        bad(padded(CASH + "journal 0 0 1 0 1", 600, ";"), 4, 599);
-        bad(padded(CASH + "journal 0 0 1 0 1", 601, ";"), 1, 600);
-        bad(padded("account cash 0;".repeat(12), 606, "account"), 3, 599);
-        bad(padded("account cash 0;".repeat(12), 607, "account"), 1, 600);
-        bad(padded("account cash 0;", 607, "accounty"), 1, 599);
-        bad(padded("account", 603, "cash"), 1, 600);
-        bad(padded("account", 603, "cast"), 1, 599);
+        Checks.bad(Checks.padded(CASH, 603, "account"), 1, 600);
+        Checks.bad(Checks.padded(CASH, 603, "accounx"), 1, 596);
+        Checks.bad(Checks.padded(CASH, 606, "account"), 1, 600);
+        Checks.bad(Checks.padded(CASH, 607, "accounx"), 1, 600);
+        Checks.bad(Checks.padded("account cash", 604, "12345"), 1, 600);
+        Checks.bad(Checks.padded("account cash", 605, "123456"), 1, 599);
+        Checks.bad(Checks.padded(CASH + "journal", 601, "19"), 1, 600);
+        Checks.bad(Checks.padded(CASH + "journal", 601, "20"), 2, 599);
+        Checks.bad(Checks.padded(CASH + "journal 0", 601, "10"), 2, 599);
+        Checks.bad(Checks.padded(CASH + "journal 0 0 1 0 1", 600, ";"), 4, 599);
+        Checks.bad(Checks.padded(CASH + "journal 0 0 1 0 1", 601, ";"), 1, 600);
+        Checks.bad(Checks.padded("account cash 0;".repeat(12), 606, "account"), 3, 599);
+        Checks.bad(Checks.padded("account cash 0;".repeat(12), 607, "account"), 1, 600);
+        Checks.bad(Checks.padded("account cash 0;", 607, "accounty"), 1, 599);
+        Checks.bad(Checks.padded("account", 603, "cash"), 1, 600);
+        Checks.bad(Checks.padded("account", 603, "cast"), 1, 599);
     }
 
     private static void checkStateStays() {
