@@ -800,7 +800,11 @@ public final class CashDeriver {
                 sums[k] = 0;
             }
             for (int k = 0; k < lines; k++) {
-                sums[way[k]] += journal.amountOf(k);
+                int group = way[k];
+                if (group < 0 || group >= MOST_LINES) {
+                    return 0;
+                }
+                sums[group] += journal.amountOf(k);
             }
             for (int k = 0; k < MOST_LINES; k++) {
                 if (sums[k] != 0) {

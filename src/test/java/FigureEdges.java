@@ -181,8 +181,94 @@ final class FigureEdges {
         Checks.due("one of greater bits than two", tracedOf(3, 1, 2, 3), 4);
         Checks.due("one of greater bits than three", tracedOf(6, 1, 2, 3, 6), 8);
         Checks.due("two of greater bits than three", tracedOf(6, 1, 2, 3, 50, 56, -50), 48);
-        Checks.due("no journal is taken twice", tracedOf(2, 1, 5), -1);
         Checks.due("none is taken that is not needed", tracedOf(8, 5, -5, 8), 4);
+    }
+
+    @Sentence(under = TERMS, words = "TRACED: the fewest JOURNALS that count, 3 at most, without which no RESIDUAL were anything but 0")
+    static void noJournalIsTakenTwice() {
+        int[][] orders = {{1, 10, 100}, {100, 10, 1}, {10, 100, 1}, {1, 100, 10}};
+        int[] sums = {2, 3, 20, 30, 200, 300, 12, 21, 102, 120, 201, 210};
+        for (int[] amounts : orders) {
+            for (int less : sums) {
+                Checks.due(less + " of three journals", tracedOf(less, amounts), -1);
+            }
+            Checks.due("all three", tracedOf(111, amounts), 7);
+        }
+    }
+
+    @Sentence(under = TERMS, words = "TRACED: the fewest JOURNALS that count, 3 at most, without which no RESIDUAL were anything but 0")
+    static void thoseThatCountAlone() {
+        CashDeriver x = Checks.of(THREE);
+        for (int n = 0; n < 5; n++) {
+            x.post(n, 0, 1, 5);
+        }
+        x.strike(0);
+        x.tell(0, 15);
+        Checks.due("not the struck one", x.traced(), 2);
+        x.strike(2);
+        x.tell(0, 5);
+        Checks.due("not the two struck ones", x.traced(), 2 | 8);
+        x.tell(0, 0);
+        Checks.due("all that count", x.traced(), 2 | 8 | 16);
+        x.strike(1);
+        x.strike(3);
+        Checks.due("the last that counts", x.traced(), 16);
+        x.tell(0, -5);
+        Checks.due("a struck one can't be without", x.traced(), -1);
+        x.strike(4);
+        Checks.due("none counts", x.traced(), -1);
+        x.tell(0, 0);
+        Checks.due("none counts, and none is needed", x.traced(), 0);
+    }
+
+    @Sentence(under = TERMS, words = "TRACED: the fewest JOURNALS that count, 3 at most, without which no RESIDUAL were anything but 0")
+    static void nothingStaysFromWhatWasTracedAhead() {
+        for (int struck = 0; struck < 4; struck++) {
+            CashDeriver x = Checks.of(THREE + "journal 0 0 1 1 -1;journal 0 0 10 1 -10;journal 0 0 100 1 -100;journal 0 0 1000 2 -1000;");
+            x.tell(0, 0);
+            x.tell(1, 0);
+            Checks.due("four are too many", x.traced(), -1);
+            // fewer journals and fewer accounts than were looked at ahead
+            x.undo();
+            int[] amounts = {1, 10, 100, 1000};
+            for (int n = 3; n >= struck; n--) {
+                x.strike(n);
+            }
+            for (int n = struck; n < 4; n++) {
+                int before = x.account(0, 2);
+                x.tell(0, before - amounts[n]);
+                Checks.due("a struck one, " + n, x.traced(), -1);
+                for (int m = 0; m < struck; m++) {
+                    x.tell(0, before - amounts[n] - amounts[m]);
+                    Checks.due("a struck one and another, " + n + ", " + m, x.traced(), -1);
+                }
+            }
+            x.tell(0, 0);
+            Checks.due("those that count", x.traced(), (1 << struck) - 1);
+        }
+        CashDeriver y = Checks.of(THREE + "journal 0 0 1 1 -1;");
+        y.tell(1, 7);
+        y.tell(0, 0);
+        Checks.due("one that stays", y.traced(), -1);
+        y.undo();
+        y.undo();
+        y.tell(0, 0);
+        Checks.due("one that was told is not told any more", y.traced(), 1);
+    }
+
+    @Sentence(under = TERMS, words = "TRACED: the fewest JOURNALS that count, 3 at most, without which no RESIDUAL were anything but 0")
+    static void ofTwelveAccountsTold() {
+        CashDeriver x = Checks.of("account cash 0;".repeat(12) + "journal 0 0 5 11 -5;journal 1 11 5 10 -5;journal 2 0 5 10 -5;");
+        for (int account = 0; account < 12; account++) {
+            x.tell(account, account == 0 ? 5 : account == 10 ? -5 : 0);
+        }
+        Checks.due("one that explains all, not the two that do", x.traced(), 4);
+        x.tell(11, 1);
+        Checks.due("a residual of the last account stays", x.traced(), -1);
+        x.tell(11, 5);
+        Checks.due("a residual of the last but one stays", x.traced(), -1);
+        x.tell(10, -10);
+        Checks.due("the first", x.traced(), 1);
     }
 
     @Sentence(under = TERMS, words = "TRACED: the fewest JOURNALS that count, 3 at most, without which no RESIDUAL were anything but 0")
@@ -256,6 +342,38 @@ final class FigureEdges {
         Checks.due("journals", x.now(1), 2);
         Checks.due("undo()", x.undo(), -1);
         Checks.due("traced()", x.traced(), 0);
+    }
+
+    @Sentence(under = TERMS, words = "A new TEXT: nothing STRUCK, nothing TOLD, nothing can be undone.")
+    static void nothingStaysFromTextsLongAgo() {
+        String accounts = "account cash 5;account work 6;account finance 7;account invest 8;";
+        String[] journals = {"journal 3 0 1 1 2 2 -1 3 -2;journal 3 0 1 1 -1;", "journal 4 0 5 1 -5;", "journal 5 0 3 1 3 2 -4 3 -2;"};
+        int[][] rows = {{0, 1, 0, 1}, {0, 0}, {0, 0, 0, 0}};
+        CashDeriver x = new CashDeriver();
+        for (int n = 0; n < 7; n++) {
+            String text = accounts + journals[n % 3];
+            Checks.due("text " + n, Checks.read(x, text), n % 3 == 0 ? 6 : 5);
+            for (int what = 2; what <= 4; what++) {
+                Checks.due("now(" + what + ") of text " + n, x.now(what), 0);
+            }
+            int[] row = rows[n % 3];
+            Checks.due("lines of text " + n, x.journal(0, 1), row.length);
+            for (int k = 0; k < row.length; k++) {
+                Checks.due("group of line " + k + " of text " + n, x.journal(0, 30 + k), row[k]);
+                Checks.due("told of account " + k + " of text " + n, x.account(k, 3), 0);
+            }
+            // of what comes later, in the place of a struck one of a text ahead, too
+            while (x.now(1) < 4) {
+                Checks.due("post() counts", x.journal(x.post(0, 0, 1, 9), 4), 0);
+                Checks.due("post() is one group", x.journal(x.now(1) - 1, 31), 0);
+            }
+            x.more(3, 2, 0, 9);
+            for (int journal = 0; journal < 4; journal++) {
+                Checks.due("strike() of text " + n, x.strike(journal), 1);
+                x.tell(journal, 99 + n);
+            }
+            x.turn(n % 4, 5);
+        }
     }
 
     @Sentence(under = TERMS, words = "A new TEXT: nothing STRUCK, nothing TOLD, nothing can be undone.")
