@@ -241,6 +241,10 @@ final class FigureEdges {
                 for (int m = 0; m < struck; m++) {
                     x.tell(0, before - amounts[n] - amounts[m]);
                     Checks.due("a struck one and another, " + n + ", " + m, x.traced(), -1);
+                    for (int l = 0; l < m; l++) {
+                        x.tell(0, before - amounts[n] - amounts[m] - amounts[l]);
+                        Checks.due("a struck one and two others, " + n + ", " + m + ", " + l, x.traced(), -1);
+                    }
                 }
             }
             x.tell(0, 0);

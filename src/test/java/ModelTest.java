@@ -7,9 +7,9 @@ import java.util.Random;
 
 /** Runs of calls, made up from fixed seeds, on the class and on the model: both must answer alike. */
 final class ModelTest {
-    private static final int RUNS = 2500;
+    private static final int RUNS = 2800;
     /** No run goes on behind so many calls: with what the last turn makes an object has at most 512. */
-    private static final int ENOUGH_CALLS = 390;
+    private static final int ENOUGH_CALLS = 330;
     private static final int[] WILD = {Integer.MIN_VALUE, Integer.MAX_VALUE, -2, -1, 0, 1, 6, 12, 19, 20, 30, 40, 600, 99999, 100000};
     private static final String[] WORDS = {"account", "journal", "cash", "work", "income", "invest", "finance", "currency"};
     private static final String[] ODD = {"-", ";", "0", "00000", "000000", "99999", "100000", "7", "12", "20", "a1", "1a", "x", "Z",
