@@ -351,8 +351,10 @@ final class FigureEdges {
     @Sentence(under = TERMS, words = "A new TEXT: nothing STRUCK, nothing TOLD, nothing can be undone.")
     static void nothingStaysFromTextsLongAgo() {
         String accounts = "account cash 5;account work 6;account finance 7;account invest 8;";
-        String[] journals = {"journal 3 0 1 1 2 2 -1 3 -2;journal 3 0 1 1 -1;", "journal 4 0 5 1 -5;", "journal 5 0 3 1 3 2 -4 3 -2;"};
-        int[][] rows = {{0, 1, 0, 1}, {0, 0}, {0, 0, 0, 0}};
+        String[] journals = {"journal 3 0 1 1 2 2 -1 3 -2;journal 3 0 1 1 -1;", "journal 4 0 5 1 -5;",
+            "journal 5 0 1 1 2 2 4 3 8 0 16 1 -31;"};
+        int[][] rows = {{0, 1, 0, 1}, {0, 0}, {0, 0, 0, 0, 0, 0}};
+        int[] pieces = {2, 1, 5};
         CashDeriver x = new CashDeriver();
         for (int n = 0; n < 7; n++) {
             String text = accounts + journals[n % 3];
@@ -362,9 +364,12 @@ final class FigureEdges {
             }
             int[] row = rows[n % 3];
             Checks.due("lines of text " + n, x.journal(0, 1), row.length);
+            Checks.due("pieces of text " + n, x.journal(0, 3), pieces[n % 3]);
             for (int k = 0; k < row.length; k++) {
                 Checks.due("group of line " + k + " of text " + n, x.journal(0, 30 + k), row[k]);
-                Checks.due("told of account " + k + " of text " + n, x.account(k, 3), 0);
+            }
+            for (int account = 0; account < 4; account++) {
+                Checks.due("told of account " + account + " of text " + n, x.account(account, 3), 0);
             }
             // of what comes later, in the place of a struck one of a text ahead, too
             while (x.now(1) < 4) {
